@@ -138,9 +138,7 @@ public final class WarpSearch {
     /** Searches for the k nearest rows of the collection: how many there are in the list. */
     public int search(int k) throws IllegalArgumentException, IllegalStateException {
         checkWanted(k);
-        if (rowCount == 0) {
-            throw new IllegalStateException("there is no row");
-        }
+        checkAnyRow();
         return searchAmong(rows, rowCount, MOST_LENGTH, k);
     }
 
@@ -154,7 +152,9 @@ public final class WarpSearch {
 
     /** The label that most of the k nearest rows have, found by a search for them. */
     public int guess(int k) throws IllegalArgumentException, IllegalStateException {
-        int many = search(k);
+        checkWanted(k);
+        checkAnyRow();
+        int many = searchAmong(rows, rowCount, MOST_LENGTH, k);
         int best = NONE;
         int mostVotes = 0;
         for (int i = 0; i < many; i++) {
@@ -218,6 +218,12 @@ public final class WarpSearch {
         }
     }
 
+    private void checkAnyRow() {
+        if (rowCount == 0) {
+            throw new IllegalStateException("there is no row");
+        }
+    }
+
     private static void checkWanted(int k) {
         if (k < 1 || k > MOST_ROWS) {
             throw new IllegalArgumentException("k is not 1 .. 12");
@@ -278,8 +284,8 @@ public final class WarpSearch {
 
     /** The question and one row beside it: bounds, least costs and the best path for the two. */
     private static final class Comparison {
-        /** Above every cost, and never added to: each pair but the first has one before it. */
-        private static final int FAR = Integer.MAX_VALUE;
+        /** Above every cost: 31 squares of at most 2000. */
+        private static final int FAR = 1_000_000_000;
 
         private final int[] question = new int[MOST_LENGTH];
         private final int[] row = new int[MOST_LENGTH];
@@ -309,20 +315,23 @@ public final class WarpSearch {
         private int hullBound(int[] hull, int[] inner) {
             int sum = 0;
             for (int i = 0; i < length; i++) {
-                sum += square(gapToHull(hull, i, inner[i]));
+                int low = hull[i];
+                int high = hull[i];
+                int last = lastInBand(i);
+                for (int p = firstInBand(i); p <= last; p++) {
+                    low = Math.min(low, hull[p]);
+                    high = Math.max(high, hull[p]);
+                }
+                sum += square(gap(inner[i], low, high));
             }
             return sum;
         }
 
-        private int gapToHull(int[] hull, int i, int v) {
-            int low = hull[i];
-            int high = hull[i];
-            int last = lastInBand(i);
-            for (int p = firstInBand(i); p <= last; p++) {
-                low = Math.min(low, hull[p]);
-                high = Math.max(high, hull[p]);
+        private static int gap(int v, int low, int high) {
+            if (v < low) {
+                return low - v;
             }
-            return Math.max(0, Math.max(low - v, v - high));
+            return v > high ? v - high : 0;
         }
 
         /** The distance, or NONE when a whole line of costs is not below the limit. */
@@ -387,11 +396,11 @@ public final class WarpSearch {
         }
 
         private int firstInBand(int i) {
-            return Math.max(0, i - width);
+            return i > width ? i - width : 0;
         }
 
         private int lastInBand(int i) {
-            return Math.min(length - 1, i + width);
+            return i + width < length ? i + width : length - 1;
         }
 
         private static int square(int v) {
