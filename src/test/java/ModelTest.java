@@ -1,8 +1,9 @@
 /** Long runs of calls, drawn by a fixed rule, whose every outcome must be that of the model. */
 public final class ModelTest {
-    private static final int RUNS = 400;
+    private static final int RUNS = 800;
+    /** Nothing is promised of an object behind so many calls. */
     private static final int CALLS = 512;
-    private static final int[] ODD = {-1, Integer.MIN_VALUE, Integer.MAX_VALUE, 17, 65, 1001, -1001};
+    private static final int[] ODD = {-1, 0, 5, 8, 13, 16, 17, 65, -1001, 1001, Integer.MIN_VALUE, Integer.MAX_VALUE};
 
     private final Check check;
     private final int run;
@@ -11,6 +12,7 @@ public final class ModelTest {
     private final int spread;
     private final int oddOneIn;
     private final int beginOneIn;
+    private int calls = 0;
     private long seed;
 
     private ModelTest(Check check, int run) {
@@ -31,95 +33,66 @@ public final class ModelTest {
     }
 
     private void play() {
-        same("begin", () -> done(() -> program.begin(2 + run % 15)), () -> done(() -> model.begin(2 + run % 15)));
-        for (int call = 1; call < CALLS; call++) {
+        make("begin", 2 + run % 15, 0);
+        // The draws alone seldom fill the stream.
+        for (int i = 0; i < 60 && run % 4 == 3; i++) {
+            make("push", pick(-spread, spread), 0);
+        }
+        while (calls < CALLS) {
             one(draw(24));
         }
     }
 
     private void one(int kind) {
-        int row = pick(0, 12);
-        int k = pick(1, 12);
-        int v = pick(-spread, spread);
-        int i = pick(0, 15);
         switch (kind) {
             case 0 -> maybeBegin();
-            case 1, 2, 3, 4, 5 -> same("ask " + i + " " + v, () -> program.ask(i, v), () -> model.ask(i, v));
-            case 6, 7 -> keep();
-            case 8 -> same("recall " + row, () -> done(() -> program.recall(row)), () -> done(() -> model.recall(row)));
-            case 9 -> band();
-            case 10 -> same("distance " + row, () -> program.distance(row), () -> model.distance(row));
-            case 11 -> bound(row);
-            case 12 -> same("steps " + row, () -> program.steps(row), () -> model.steps(row));
-            case 13 -> pair(row);
-            case 14, 15 -> same("search " + k, () -> program.search(k), () -> model.search(k));
-            case 16 -> found();
-            case 17 -> same("guess " + k, () -> program.guess(k), () -> model.guess(k));
-            case 18 -> count();
-            case 19, 20, 21 -> same("push " + v, () -> program.push(v), () -> model.push(v));
-            case 22 -> same("scan " + k, () -> program.scan(k), () -> model.scan(k));
-            default -> shift();
+            case 1, 2, 3, 4, 5 -> make("ask", pick(0, 15), pick(-spread, spread));
+            case 6, 7 -> make("keep", pick(0, 7), 0);
+            case 8 -> make("recall", pick(0, 12), 0);
+            case 9 -> make("band", draw(2) == 0 ? pick(0, 3) : pick(0, 15), 0);
+            case 10 -> make("distance", pick(0, 12), 0);
+            case 11 -> make("bound", pick(0, 12), pick(0, 3));
+            case 12 -> make("steps", pick(0, 12), 0);
+            case 13 -> make("pair", pick(0, 12), pick(0, 31));
+            case 14, 15 -> make("search", pick(1, 12), 0);
+            case 16 -> wholeList();
+            case 17 -> make("guess", pick(1, 12), 0);
+            case 18 -> allCounts();
+            case 19, 20, 21 -> make("push", pick(-spread, spread), 0);
+            case 22 -> make("scan", pick(1, 12), 0);
+            default -> make("shift", pick(0, 6), 0);
         }
     }
 
     private void maybeBegin() {
         if (draw(beginOneIn) == 0) {
-            int n = pick(2, 16);
-            same("begin " + n, () -> done(() -> program.begin(n)), () -> done(() -> model.begin(n)));
+            make("begin", pick(2, 16), 0);
         }
     }
 
-    private void keep() {
-        int label = pick(0, 7);
-        same("keep " + label, () -> program.keep(label), () -> model.keep(label));
-    }
-
-    private void band() {
-        int w = draw(2) == 0 ? pick(0, 3) : pick(0, 15);
-        same("band " + w, () -> program.band(w), () -> model.band(w));
-    }
-
-    private void bound(int row) {
-        int which = pick(0, 3);
-        same("bound " + row + " " + which, () -> program.bound(row, which), () -> model.bound(row, which));
-    }
-
-    private void pair(int row) {
-        int at = pick(0, 31);
-        same("pair " + row + " " + at, () -> program.pair(row, at), () -> model.pair(row, at));
-    }
-
-    /** Whole lists at once, since one place of them tells little. */
-    private void found() {
+    /** The whole list at once, since one place of it tells little. */
+    private void wholeList() {
         for (int i = 0; i <= 12; i++) {
-            int at = i;
-            same("found " + i, () -> program.found(at, false), () -> model.found(at, false));
-            same("found distance " + i, () -> program.found(at, true), () -> model.found(at, true));
+            make("found", i, 0);
+            make("found", i, 1);
         }
     }
 
-    private void count() {
-        for (int i = 0; i <= 5; i++) {
-            int what = i;
-            same("count " + i, () -> program.count(what), () -> model.count(what));
+    private void allCounts() {
+        for (int what = 0; what <= 4; what++) {
+            make("count", what, 0);
         }
     }
 
-    private void shift() {
-        int many = pick(0, 6);
-        same("shift " + many, () -> done(() -> program.shift(many)), () -> done(() -> model.shift(many)));
+    private void make(String name, int a, int b) {
+        if (calls < CALLS) {
+            calls++;
+            Call call = Call.of(name, a, b);
+            check.same("run " + run + ", call " + calls + ": " + call, call.on(program), call.on(model));
+        }
     }
 
-    private void same(String what, Check.Call got, Check.Call due) {
-        check.same("run " + run + ": " + what, Check.outcome(got), Check.outcome(due));
-    }
-
-    private static int done(Check.Deed deed) {
-        deed.happen();
-        return 0;
-    }
-
-    /** Mostly a number from low to high, now and then one that no call takes. */
+    /** Mostly a number from low to high, now and then one that few calls take. */
     private int pick(int low, int high) {
         return draw(oddOneIn) == 0 ? ODD[draw(ODD.length)] : low + draw(high - low + 1);
     }

@@ -1,8 +1,8 @@
 /** Each promise by hand: ordinary inputs, the edges that the document names, and wrong inputs. */
 public final class PromiseTest {
-    private static final Class<IllegalArgumentException> ARGUMENT = IllegalArgumentException.class;
-    private static final Class<IndexOutOfBoundsException> INDEX = IndexOutOfBoundsException.class;
-    private static final Class<IllegalStateException> STATE = IllegalStateException.class;
+    private static final Class<IllegalArgumentException> ARGUMENT = Check.ARGUMENT;
+    private static final Class<IndexOutOfBoundsException> INDEX = Check.INDEX;
+    private static final Class<IllegalStateException> STATE = Check.STATE;
 
     private static final Check CHECK = new Check();
 
@@ -470,16 +470,11 @@ public final class PromiseTest {
     }
 
     private static WarpSearch asking(int n, int... numbers) {
-        WarpSearch x = new WarpSearch();
-        x.begin(n);
-        set(x, numbers);
-        return x;
+        return Given.asking(n, numbers);
     }
 
     private static void set(WarpSearch x, int... numbers) {
-        for (int i = 0; i < numbers.length; i++) {
-            x.ask(i, numbers[i]);
-        }
+        Given.set(x, numbers);
     }
 
     private static void pathIs(String what, int w, int[] question, int[] row, int... pairs) {
