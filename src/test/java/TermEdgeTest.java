@@ -123,6 +123,11 @@ public final class TermEdgeTest {
             pathIs(2, new int[] {1, 0, 0}, new int[] {0, 1, 0}, 0, 1, 18, 34);
             pathIs(2, new int[] {0, 1, 0}, new int[] {1, 0, 0}, 0, 16, 33, 34);
         });
+        CHECK.sentence("it costs least to the pair before, however dear the pair behind it is", () -> {
+            pathIs(2, new int[] {0, 0, 5}, new int[] {0, 5, -10}, 0, 16, 33, 34);
+            pathIs(2, new int[] {0, 5, -10}, new int[] {0, 0, 5}, 0, 1, 18, 34);
+            pathIs(2, new int[] {0, 9, -9}, new int[] {0, 9, 9}, 0, 17, 34);
+        });
         CHECK.sentence("of the pairs that a path may have before it: along the edges there is one", () -> {
             pathIs(3, new int[] {0, 9, 9, 9}, new int[] {0, 0, 0, 9}, 0, 1, 2, 19, 35, 51);
             pathIs(3, new int[] {0, 0, 0, 9}, new int[] {0, 9, 9, 9}, 0, 16, 32, 49, 50, 51);
